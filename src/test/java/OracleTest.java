@@ -4,7 +4,9 @@ import java.lang.reflect.Modifier;
 import java.util.ArrayList;
 import java.util.Arrays;
 import java.util.Comparator;
+import java.util.HashMap;
 import java.util.List;
+import java.util.Map;
 import java.util.Random;
 
 /** Runs by lot (the same each time), every answer held against the oracle's. */
@@ -13,6 +15,56 @@ public final class OracleTest {
     private static final int[] ODD = {-1, Integer.MIN_VALUE, Integer.MAX_VALUE, 10, 24, 25, 100, 101, Due.NONE, -24, 61};
     private static final String[] PARTS = {"want", "fee", "fine", "t", "n", "s", "v", "w", "g", "+", "-", "*", "/", "<",
         "=", ">", "&", "|", "!", "(", ")", "0", "7", "12", "345", "6789", "12345", "x", "tt", "A", "\u00e9", "\0"};
+
+    /** What the document lets each call be asked with, least and most of each number. */
+    private static final Map<String, int[]> RANGES = new HashMap<>();
+
+    private static void range(String name, int... leastAndMost) {
+        RANGES.put(name, leastAndMost);
+    }
+
+    private static void ranges() {
+        range("person", 0, 5, 0, 7, 0, 9);
+        range("told", 0, 7, 0, 6);
+        range("as", 0, 7, 0, 5);
+        range("turns", 0, 7, 0, 5);
+        range("set", 0, 7, 1, 3, 0, 9);
+        range("thought", 0, 7, 0, 5);
+        range("lets", 0, 7, 0, 5, 0, 9);
+        range("says", 0, 7, 0, 5);
+        range("heeds", 0, 7, 0, 5, 1, 9);
+        range("sow", 0, 5, 0, 9);
+        range("field", 0, 5, 0, 4);
+        range("votes", 0, 5, 1, 9);
+        range("deal", 1, 8);
+        range("seed", -9, 9);
+        range("weeks", 1, 9);
+        range("county", 0, 4);
+        range("behind", 0, 100, 0, 8);
+        range("first", 0, 5, 0, 9);
+        range("ear", 0, 5, 1, 9, 0, 60, 0, 1);
+        range("fewest", 0, 5, 1, 9, 0, 12);
+        range("house", 0, 7, 1, 60, 0, 1);
+        range("becomes", 0, 7, 1, 60, 0, 1);
+        range("like", 0, 3, 0, 1);
+        range("fine", 0, 7);
+        range("feed", 0, 1 << 30, 0, 1 << 30, 0, 1 << 30);
+        range("trim", 0, 24);
+        range("textTold", 0, 13, 0, 1);
+        range("why", 0, 2);
+        range("sheet", 0, 3, -1, 1, -1, 25);
+        range("mark", 0, 3, 0, 8, -2, 12);
+        range("pour", 0, 3);
+        range("reads", 0, 3);
+        range("copy", 0, 3, -1, 12, 0, 3, -1, 12, -1, 12);
+        range("lay", 0, 4, 0, 3, 0, 4);
+        range("ask", 0, 4, 0, 5);
+        range("item", 0, 4, -1, 12);
+        range("rest", 0, 4, -5, 5);
+        range("tell", -3, 40);
+        range("check", 1, 30);
+        range("count", 0, 8);
+    }
 
     private static List<Method> calls() {
         List<Method> calls = new ArrayList<>();
@@ -67,13 +119,13 @@ public final class OracleTest {
         return text.length() > 96 ? text.substring(0, 96) : text;
     }
 
-    private static int argument(Random lot) {
-        switch (some(lot, 40)) {
+    private static int argument(Random lot, String name, int k) {
+        switch (some(lot, 50)) {
             case 0: return ODD[some(lot, ODD.length)];
             case 1: return lot.nextInt();
             case 2: return some(lot, 101);
-            case 3: return some(lot, 25);
-            default: return some(lot, some(lot, 2) == 0 ? 4 : 10);
+            case 3: return lot.nextInt() >> some(lot, 32);
+            default: return RANGES.get(name)[2 * k] + some(lot, RANGES.get(name)[2 * k + 1] - RANGES.get(name)[2 * k] + 1);
         }
     }
 
@@ -108,17 +160,23 @@ public final class OracleTest {
         Oracle o = new Oracle();
         StringBuilder log = new StringBuilder();
         boolean late = number % 10 == 9;
+        if (number % 3 != 0) {
+            x.seed(number);
+            o.call("seed", new int[] {number});
+            x.deal(8);
+            o.call("deal", new int[] {8});
+        }
         for (int i = 0; i < CALLS; i++) {
             Method m = calls.get(some(lot, calls.size()));
             int[] args = new int[m.getParameterCount()];
             for (int k = 0; k < args.length; k++) {
-                args[k] = argument(lot);
+                args[k] = argument(lot, m.getName(), k);
             }
             if (dear(m.getName()) && some(lot, 3) != 0 || late && i < 150) {
                 m = HearsaySeeds.class.getMethod("weeks", int.class);
-                args = new int[] {late && i < 150 ? 60 + some(lot, 41) : 1 + some(lot, 5)};
+                args = new int[] {late && i < 150 ? 60 + some(lot, 41) - some(lot, 40) / 39 * 99 : 1 + some(lot, 5)};
             }
-            if (m.getName().equals("back") && some(lot, 4) != 0 || m.getName().equals("trim") && some(lot, 2) == 0) {
+            if (m.getName().equals("back") && some(lot, 12) != 0 || m.getName().equals("trim") && some(lot, 2) == 0) {
                 continue;
             }
             if (m.getName().equals("text") && some(lot, 8) != 0) {
@@ -170,6 +228,7 @@ public final class OracleTest {
     public static void main(String[] args) throws Exception {
         int runs = args.length > 0 ? Integer.parseInt(args[0]) : RUNS;
         int from = args.length > 1 ? Integer.parseInt(args[1]) : 0;
+        ranges();
         List<Method> calls = calls();
         for (int number = from; number < from + runs; number++) {
             if (!run(number, calls)) {
