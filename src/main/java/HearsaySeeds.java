@@ -737,8 +737,9 @@ public final class HearsaySeeds {
         int changed;
         int week;
         int z = 1;
-        /** Texts are never told anew, so a county need only know how many of them are its own. */
+        /** An image's texts stand ahead of those told since, so how many there are is all that it need keep of them. */
         int texts;
+        /** The text that counts for each key; -1: none. */
         final int[] latest = {-1, -1, -1};
 
         County(Laws laws) {
@@ -767,7 +768,6 @@ public final class HearsaySeeds {
             kind[people] = newKind;
             place[people] = newPlace;
             trust[people] = newTrust;
-            // Someone else may have stood here before an image was gone back to.
             sure[people] = 0;
             for (int field = 0; field < FIELDS; field++) {
                 think(people, field, 0);

@@ -72,7 +72,7 @@ public final class FutureTest {
     }
 
     /** A liar hears of field 0 every sixth week, and each time is 1 less sure, until it heeds it. */
-    private static HearsaySeeds slow(int sure) {
+    private static HearsaySeeds slow(int sure, int weeks) {
         HearsaySeeds x = new HearsaySeeds();
         x.person(0, 0, 0);
         x.person(3, 1, 5);
@@ -80,18 +80,20 @@ public final class FutureTest {
         x.lets(0, 0, 3);
         x.lets(2, 0, 4);
         x.set(1, 3, 99);
-        x.weeks(5);
+        x.weeks(weeks);
         x.set(1, 3, sure);
         return x;
     }
 
     private static void first() {
-        HearsaySeeds x = slow(4);
+        HearsaySeeds x = slow(4, 5);
         due("19: it grew there latest", x.first(0, 4), 0);
         due("19: the second time", x.first(0, 3), 8);
-        due("19: at once", slow(3).first(0, 3), 2);
-        due("19: behind 200", slow(36).first(0, 3), 200);
-        due("19: not by then", slow(37).first(0, 3), NONE);
+        due("19: at once", slow(3, 5).first(0, 3), 2);
+        due("19: behind 200", slow(36, 5).first(0, 3), 200);
+        due("19: 201 is not by then", slow(36, 4).first(0, 3), NONE);
+        due("19: not by then", slow(37, 5).first(0, 3), NONE);
+        due("19: behind 195", slow(35, 4).first(0, 3), 195);
         due("19: nothing grew", x.first(1, 0), 0);
         due("19: never", x.first(1, 1), NONE);
         due("19: field", x.first(-1, 0), BAD);

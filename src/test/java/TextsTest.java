@@ -61,6 +61,12 @@ public final class TextsTest {
         fault("want t t", 7);
         fault("want 3 3", 7);
         fault("want tt", 5);
+        fault("want tz", 5);
+        fault("want ta", 5);
+        fault("want 1a", 6);
+        fault("fine\0s", 4);
+        fault("xine s", 0);
+        fault("wanx s", 0);
         fault("want w", 5);
         fault("want g", 5);
         fault("fee w+g", -1);
@@ -117,6 +123,40 @@ public final class TextsTest {
         fault("want t want t", 7);
     }
 
+    /** What stood behind the bytes that are kept is gone. */
+    private static void trimmed() {
+        String[] rows = {"want tttttttttttttttttttt", "fee 99999999999999999999", "fine t                ", "fee 5+++++++++++++++"};
+        int[] kept = {6, 8, 6, 5};
+        for (int i = 0; i < rows.length; i++) {
+            HearsaySeeds x = new HearsaySeeds();
+            Due.tape(x, rows[i]);
+            due("28: kept", x.trim(kept[i]), kept[i]);
+            due("29: " + rows[i], x.text(), 0);
+        }
+        HearsaySeeds x = new HearsaySeeds();
+        Due.tape(x, "want tttttttttttttttttttt");
+        x.trim(5);
+        due("29: the end too soon", x.text(), -105);
+        x.trim(0);
+        due("29: nothing", x.text(), -100);
+    }
+
+    /** A text that was at fault leaves nothing to the next. */
+    private static void oneBehindTheOther() {
+        HearsaySeeds x = new HearsaySeeds();
+        due("29: open", Due.text(x, "want ((((((t"), -112);
+        due("29: closed by none", Due.text(x, "want t)"), -106);
+        due("29: open", Due.text(x, "want ((((((t"), -112);
+        due("29: eight again", Due.text(x, "want ((((((((t))))))))"), 0);
+        due("29: nots", Due.text(x, "fee !!!!!!!!"), -112);
+        due("29: eight again", Due.text(x, "fee !!!!!!!!0"), 1);
+        due("25: as told", x.fee(), 0);
+        due("29: signs", Due.text(x, "fee 1<2+"), -108);
+        due("29: a text", Due.text(x, "fee 3>2"), 2);
+        due("30: its own numbers alone", x.textTold(2, 1), 2);
+        due("25: as told", x.fee(), 1);
+    }
+
     private static void depths() {
         String eight = "((((((((";
         String closed = "))))))))";
@@ -152,8 +192,14 @@ public final class TextsTest {
         due("29: 96 bytes", Due.text(x, text + " "), 1);
         due("29: 96 bytes", Due.text(x, text + "7"), 2);
         due("25: sum", x.fee(), 45 + 17);
+        StringBuilder blanks = new StringBuilder("fee ");
+        while (blanks.length() < 95) {
+            blanks.append(' ');
+        }
+        due("29: a name as the last byte", Due.text(x, blanks + "w"), 3);
+        due("29: a sign as the last byte", Due.text(x, blanks + "!"), -196);
         String wide = "fee 1|1&1<1+1*(1|1&1<1+1*(1|1&1<1+1*(1|1&1<1+1*(1|1&1<1+1*(1|1&1<1+1*(1|0&1<1+1*(5)))))))";
-        due("29: many signs waiting", Due.text(x, wide), 3);
+        due("29: many signs waiting", Due.text(x, wide), 4);
         due("25: true", x.fee(), 1);
     }
 
@@ -270,6 +316,8 @@ public final class TextsTest {
     public static void main(String[] args) {
         tape();
         faults();
+        trimmed();
+        oneBehindTheOther();
         depths();
         longest();
         values();
