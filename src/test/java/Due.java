@@ -5,15 +5,22 @@ final class Due {
 
     private static int asked = 0;
     private static int wrong = 0;
+    private static String sentence = "";
 
     private Due() {
+    }
+
+    /** What is asked from here on is asked because of these words, which stand with that promise or in the Terms. */
+    static void sentence(int promise, String words) {
+        sentence = "promise " + promise + ", \"" + words + "\": ";
+        holds("these words stand in the document", Doc.says(promise, words));
     }
 
     static void due(String call, int got, int want) {
         asked++;
         if (got != want) {
             wrong++;
-            System.out.println(call + " answered " + got + ", due is " + want);
+            System.out.println(sentence + call + " answered " + got + ", due is " + want);
         }
     }
 
