@@ -8,35 +8,6 @@ public final class BoundsOfFutureTest {
         Due.due(call, got, want);
     }
 
-    private static int drawn(int z) {
-        return z * 1103515245 + 12345;
-    }
-
-    /** In which week from now on the road first leads to that place and that field. */
-    private static int weekOfTheRoad(int v, int place, int field) {
-        int z = v;
-        for (int week = 0; week < 400; week++) {
-            int first = drawn(z);
-            z = drawn(first);
-            if ((first >>> 8) % 8 == place && (z >>> 8) % 6 == field) {
-                return week;
-            }
-        }
-        return 400;
-    }
-
-    /** From 0 on, the first told number by which that is within these weeks. */
-    private static int roadWithin(int place, int field, int least, int most) {
-        for (int v = 0; v < 10000000; v++) {
-            int week = weekOfTheRoad(v, place, field);
-            if (week >= least && week <= most) {
-                return v;
-            }
-        }
-        Due.holds("there is such a number", false);
-        return 0;
-    }
-
     /** Eight people by lot who think and say different things, a few weeks on. */
     private static HearsaySeeds lively(int lot) {
         HearsaySeeds x = new HearsaySeeds();
@@ -149,7 +120,7 @@ public final class BoundsOfFutureTest {
         due("house", x.house(2, 60, 1), 60);
         Due.sentence(23, "without the bound of THE WEEK");
         x.sow(3, 6);
-        x.seed(roadWithin(6, 3, 60, 400));
+        x.seed(Road.notTo(0, 3));
         due("becomes, one more of it", x.becomes(0, 1, 0), 1);
         due("becomes", x.becomes(0, 1, 1), 0);
         x.sow(3, 0);
@@ -199,7 +170,7 @@ public final class BoundsOfFutureTest {
     /** Alone at place 3, whom the road shows 9 in a field within these weeks. */
     private static HearsaySeeds seenWithin(int field, int least, int most) {
         HearsaySeeds x = new HearsaySeeds();
-        x.seed(roadWithin(3, field, least, most));
+        x.seed(Road.within(3, field, least, most));
         x.person(NEIGHBOUR, 3, 0);
         x.sow(field, 9);
         return x;
@@ -300,6 +271,23 @@ public final class BoundsOfFutureTest {
         due("votes", x.ear(0, 9, 0, 1), 12);
     }
 
+    private static void worseThanNone() {
+        Due.sentence(20, "the one of PEOPLE whom it had best be TOLD now");
+        // Who is sure 99 heeds whatever a gossip says of it, who is sure 50 does not: nobody had best be told.
+        HearsaySeeds x = new HearsaySeeds();
+        Due.text(x, "want (s > 98) * 99");
+        for (int i = 0; i < 2; i++) {
+            x.person(GOSSIP, 0, 0);
+            x.lets(i, 0, 4);
+            x.set(i, 3, 50);
+        }
+        due("one all the same", x.ear(0, 4, 6, 0), 0);
+        due("its votes", x.ear(0, 4, 6, 1), 1);
+        due("nobody told", x.fewest(0, 4, 6), 0);
+        x.weeks(6);
+        due("nobody told", x.votes(0, 4), 2);
+    }
+
     private static void toldIsSure() {
         Due.sentence(20, "To TELL one a CROP of a FIELD: it THINKS that of it, and is SURE 99");
         // The child says 9 of field 0 to the other one, who was told 4 of it and is sure.
@@ -381,7 +369,7 @@ public final class BoundsOfFutureTest {
         HearsaySeeds x = new HearsaySeeds();
         x.person(NEIGHBOUR, 3, 0);
         x.sow(5, 9);
-        x.seed(roadWithin(3, 5, 11, 11));
+        x.seed(Road.within(3, 5, 11, 11));
         due("till then he thinks it", x.fewest(5, 8, 11), 1);
         due("behind 12 weeks he has seen it", x.fewest(5, 8, 12), NONE);
         due("behind 12 weeks he has seen it", x.fewest(5, 9, 12), 0);
@@ -449,6 +437,26 @@ public final class BoundsOfFutureTest {
         }
     }
 
+    /** Best would be a place beside 7 and 1 that is not beside 0; there is none. */
+    private static void noNinthPlace() {
+        Due.sentence(22, "PLACE 0 .. 7 (along the lane, round: beside 7 is 0)");
+        HearsaySeeds x = new HearsaySeeds();
+        Due.text(x, "want (s < 50) * (s + 1)");
+        x.person(NEIGHBOUR, 7, 0);
+        x.person(NEIGHBOUR, 1, 0);
+        for (int i = 2; i < 6; i++) {
+            x.person(NEIGHBOUR, 4, 0);
+        }
+        x.person(CHILD, 0, 0);
+        x.lets(0, 0, 3);
+        x.lets(1, 1, 3);
+        x.set(0, 3, 99);
+        x.set(1, 3, 99);
+        // 5 without it (the child heeds the first as well), and its own 2 in one of the fields.
+        due("beside one of them alone", x.house(2, 2, 0), 2);
+        due("weight", x.house(2, 2, 1), 7);
+    }
+
     // ---- 23
 
     private static void boundsOfBecomes() {
@@ -496,7 +504,7 @@ public final class BoundsOfFutureTest {
     private static void eachKindIsBest() {
         Due.sentence(23, "the KIND of which it had best be from now on");
         HearsaySeeds x = new HearsaySeeds();
-        x.seed(roadWithin(0, 0, 10, 400));
+        x.seed(Road.notTo(0, 0));
         x.person(NEIGHBOUR, 0, 0);
         x.person(NEIGHBOUR, 0, 9);
         x.lets(0, 0, 3);
@@ -520,7 +528,7 @@ public final class BoundsOfFutureTest {
     private static void traderIsBest() {
         Due.sentence(23, "TRADER: as EXPERT, less 1");
         HearsaySeeds x = new HearsaySeeds();
-        x.seed(roadWithin(0, 0, 10, 400));
+        x.seed(Road.notTo(0, 0));
         x.sow(0, 9);
         x.person(NEIGHBOUR, 0, 0);
         x.lets(0, 0, 3);
@@ -657,6 +665,10 @@ public final class BoundsOfFutureTest {
         due("s of another one", x.fine(1), 0);
         Due.text(x, "fine 0 - 9999");
         due("not held within anything", x.fine(1), -9999);
+        HearsaySeeds y = new HearsaySeeds();
+        y.person(NEIGHBOUR, 0, 7);
+        Due.text(y, "fine t + 1");
+        due("the text of number 0 counts", y.fine(0), 8);
     }
 
     private static void fineRefused() {
@@ -684,6 +696,7 @@ public final class BoundsOfFutureTest {
         boundsOfEar();
         earAsItComes();
         earOfSeveral();
+        worseThanNone();
         toldIsSure();
         boundsOfFewest();
         fewestAsItComes();
@@ -692,6 +705,7 @@ public final class BoundsOfFutureTest {
         boundsOfHouse();
         houseAsItComes();
         houseAtTheEnds();
+        noNinthPlace();
         boundsOfBecomes();
         becomesAsItComes();
         eachKindIsBest();

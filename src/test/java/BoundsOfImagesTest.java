@@ -220,6 +220,13 @@ public final class BoundsOfImagesTest {
         due("right", x.check(1), 0);
         due("none wait", x.count(6), 0);
         due("missing now", x.check(1), 1);
+        int[] more = weeksTold(back(x), 2);
+        tellAll(x, more, 3);
+        x.tell(more[3] + 1);
+        due("the fourth is not", x.check(2), 4);
+        tellAll(x, more, 2);
+        due("the third is missing, whatever waited before", x.check(2), 3);
+        due("the first is missing, whatever waited before", x.check(2), 1);
     }
 
     private static void badAheadOfNo() {

@@ -666,10 +666,6 @@ public final class BoundsOfPeopleTest {
 
     // ---- 14, 15
 
-    private static int drawn(int z) {
-        return z * 1103515245 + 12345;
-    }
-
     private static void boundsOfDeal() {
         Due.sentence(14, "PEOPLE are drawn, n (1 .. 8) of them, as many as there is room for (no draws for others): how many came. BAD");
         for (int odd : new int[] {0, 9, -1, LOW, HIGH}) {
@@ -686,7 +682,7 @@ public final class BoundsOfPeopleTest {
                 due("how many then", x.count(0), there + come);
                 int z = 1;
                 for (int i = 0; i < 3 * come; i++) {
-                    z = drawn(z);
+                    z = Road.drawn(z);
                 }
                 due("draws", x.count(8), z);
             }
@@ -703,13 +699,13 @@ public final class BoundsOfPeopleTest {
             x.seed(z);
             x.deal(8);
             for (int i = 0; i < 8; i++) {
-                z = drawn(z);
+                z = Road.drawn(z);
                 int kind = (z >>> 8) % 6;
                 due("kind", x.told(i, 0), kind);
-                z = drawn(z);
+                z = Road.drawn(z);
                 int place = (z >>> 8) % 8;
                 due("place", x.told(i, 1), place);
-                z = drawn(z);
+                z = Road.drawn(z);
                 int trust = (z >>> 8) % 10;
                 due("trust", x.told(i, 2), trust);
                 due("sure", x.told(i, 3), 0);

@@ -98,6 +98,14 @@ public final class BoundsOfTextsTest {
             due("a text", x.text(), 0);
             due("the first " + bytes, x.fee(), 1234 / (bytes == 5 ? 1000 : bytes == 6 ? 100 : bytes == 7 ? 10 : 1));
         }
+        String[] rows = {"fee wg", "fee 1+", "fee 1)", "fee 1 1", "feed 1"};
+        int[] kept = {5, 5, 5, 5, 3};
+        for (int i = 0; i < rows.length; i++) {
+            HearsaySeeds x = new HearsaySeeds();
+            Due.tape(x, rows[i]);
+            x.trim(kept[i]);
+            due("what stood behind them is gone from " + rows[i], x.text(), kept[i] == 3 ? -103 : 0);
+        }
         HearsaySeeds x = new HearsaySeeds();
         Due.tape(x, "fee 1234");
         x.trim(5);
@@ -121,6 +129,36 @@ public final class BoundsOfTextsTest {
         due("fourteen", x.count(5), 14);
         due("it does not count", x.fee(), 13);
         due("it does not count", x.why(0), NONE);
+    }
+
+    private static void nothingLeftToTheNext() {
+        Due.sentence(29, "an act that reads it uses it up, whatever it answers");
+        HearsaySeeds x = new HearsaySeeds();
+        due("open", Due.text(x, "fee (((((((("), -112);
+        due("closed by none", Due.text(x, "fee 1)"), -105);
+        due("open", Due.text(x, "fee (((((((("), -112);
+        due("eight again", Due.text(x, "fee ((((((((1))))))))"), 0);
+        due("nots", Due.text(x, "fee !!!!!!!!"), -112);
+        due("eight again", Due.text(x, "fee !!!!!!!!0"), 1);
+        due("as told", x.fee(), 0);
+        due("signs that wait", Due.text(x, "fee 1|2&3<4+5*"), -114);
+        due("a text", Due.text(x, "fee 7"), 2);
+        due("as told", x.fee(), 7);
+        due("a name, then the end", Due.text(x, "fee w"), 3);
+        due("a digit right behind nothing", x.text(), -100);
+        due("a word first", Due.text(x, "7fee 1"), -100);
+        due("no word stands ahead of the first", Due.text(x, "fee 1"), 4);
+        due("a test that waits", Due.text(x, "fee 1<"), -106);
+        due("is not a first one to the next", Due.text(x, "fee 1<2"), 5);
+        due("a not that waits", Due.text(x, "fee !"), -105);
+        due("a text", Due.text(x, "fee 7"), 6);
+        due("is not the next one's", x.fee(), 7);
+        due("a longer one", Due.text(x, "fee !0"), 7);
+        due("and a shorter one", Due.text(x, "fee 7"), 8);
+        due("as told", x.fee(), 7);
+        due("a longer one", Due.text(x, "fee 5-!0"), 9);
+        due("and a shorter one", Due.text(x, "fee 7-6"), 10);
+        due("as told", x.fee(), 1);
     }
 
     private static void usedUp() {
@@ -163,7 +201,9 @@ public final class BoundsOfTextsTest {
             fault(key.substring(0, key.length() - 1) + " 1", 0);
             fault(key.substring(1) + " 1", 0);
             fault(key.toUpperCase() + " 1", 0);
-            fault(key.substring(0, key.length() - 1) + "z 1", 0);
+            for (int i = 0; i < key.length(); i++) {
+                fault(key.substring(0, i) + "z" + key.substring(i + 1) + " 1", 0);
+            }
             fault("  " + key + "s 1", 2);
             fault("1 " + key + " 1", 0);
             fault("(" + key + " 1)", 0);
@@ -284,6 +324,8 @@ public final class BoundsOfTextsTest {
         fault(longest + "1+", 96);
         fault(longest + "1 ", TEXT);
         fault(longest + "12", TEXT);
+        fault(longest + " w", TEXT);
+        fault(longest + "ww", 94);
         fault(longest + "1)", 95);
         fault(longest + "1!", 95);
         fault(longest.substring(0, 93) + "9999", TEXT);
@@ -304,6 +346,9 @@ public final class BoundsOfTextsTest {
         fault("fee (((((((1)+(1)+(((1", 20);
         fault("fee !!!!!!!!1+!!!!!!!!1", TEXT);
         fault("fee !!!!!!!!1+!!!!!!!!!1", 22);
+        fault("fee !!!!!!!!w+!!!!!!!!w", TEXT);
+        fault("fee !!!!!!!!w+!!!!!!!!!w", 22);
+        fault("fee !!!!!!!!(w)+!!!!!!!!(w)", TEXT);
         fault("fee !!!!!!!!(!1)", 13);
         fault("fee !!!!!!!!(1)*!1", TEXT);
         fault("fee !!!!!!!(!1+!1+!(!1))", 20);
@@ -396,6 +441,11 @@ public final class BoundsOfTextsTest {
         value("!0*5", 5);
         value("!0<1", 0);
         value("2*!0", 2);
+        value("!w", 1);
+        value("!w+1", 2);
+        value("!!w", 0);
+        value("!w*5-3", 2);
+        value("!(w)+1", 2);
         value("2-(3-4)", 3);
         value("2*(3+4)", 14);
     }
@@ -547,6 +597,7 @@ public final class BoundsOfTextsTest {
         keepsTheFirst();
         fourteenTexts();
         usedUp();
+        nothingLeftToTheNext();
         faultAheadOfFull();
         keys();
         namesOfKeys();

@@ -8,19 +8,6 @@ public final class BoundsOfWeeksTest {
         Due.due(call, got, want);
     }
 
-    private static int drawn(int z) {
-        return z * 1103515245 + 12345;
-    }
-
-    /** From 0 on, the first told number whose next draws lead to that place and that field. */
-    private static int leadsTo(int place, int field) {
-        int v = 0;
-        while ((drawn(v) >>> 8) % 8 != place || (drawn(drawn(v)) >>> 8) % 6 != field) {
-            v++;
-        }
-        return v;
-    }
-
     /** A county in which so many weeks have passed, nobody living there. */
     private static HearsaySeeds inWeek(int week) {
         HearsaySeeds x = new HearsaySeeds();
@@ -242,14 +229,14 @@ public final class BoundsOfWeeksTest {
                 for (int f = 0; f < 6; f++) {
                     x.sow(f, f + 4);
                 }
-                int v = leadsTo(place, field);
+                int v = Road.to(place, field);
                 x.seed(v);
                 x.weeks(1);
                 for (int i = 0; i < 8; i++) {
                     due(i + " where " + place + " sees " + field, x.told(i, 5), i == place ? 1 << field : 0);
                 }
                 due("what was sown", x.thought(place, field), field + 4);
-                due("two draws", x.count(8), drawn(drawn(v)));
+                due("two draws", x.count(8), Road.drawn(Road.drawn(v)));
             }
         }
     }
@@ -263,7 +250,7 @@ public final class BoundsOfWeeksTest {
         }
         x.sow(5, 9);
         x.lets(0, 5, 3);
-        x.seed(leadsTo(7, 5));
+        x.seed(Road.to(7, 5));
         x.weeks(1);
         for (int i = 0; i < 8; i++) {
             due("sees it", x.thought(i, 5), 9);
@@ -279,12 +266,12 @@ public final class BoundsOfWeeksTest {
         x.person(NEIGHBOUR, 7, 0);
         x.lets(0, 5, 3);
         x.sow(4, 8);
-        int v = leadsTo(7, 5);
+        int v = Road.to(7, 5);
         x.seed(v);
         x.weeks(1);
         due("thinks as before", x.thought(0, 5), 3);
         due("of no other field", x.told(0, 5), 32);
-        due("two draws all the same", x.count(8), drawn(drawn(v)));
+        due("two draws all the same", x.count(8), Road.drawn(Road.drawn(v)));
     }
 
     private static void oneBehindTheOther() {
@@ -293,7 +280,7 @@ public final class BoundsOfWeeksTest {
         x.person(NEIGHBOUR, 7, 0);
         x.person(NEIGHBOUR, 0, 9);
         x.sow(0, 9);
-        x.seed(leadsTo(7, 0));
+        x.seed(Road.to(7, 0));
         due("seen ahead of the growing", x.weeks(1), 2);
         due("grew", x.field(0, 1), 9);
         due("seen behind the talking", x.thought(1, 0), 0);
@@ -349,7 +336,7 @@ public final class BoundsOfWeeksTest {
             HearsaySeeds x = new HearsaySeeds();
             // Lives across the lane from where the road leads, so that it goes on thinking what it thinks.
             x.person(NEIGHBOUR, 0, 0);
-            x.seed(leadsTo(4, 5));
+            x.seed(Road.to(4, 5));
             x.lets(0, 0, row[0]);
             x.sow(0, row[1]);
             x.weeks(1);
@@ -393,7 +380,7 @@ public final class BoundsOfWeeksTest {
                 int passed = Math.min(n, 9999 - week);
                 int z = x.count(8);
                 for (int i = 0; i < 2 * passed; i++) {
-                    z = drawn(z);
+                    z = Road.drawn(z);
                 }
                 due("from " + week + ", " + n, x.weeks(n), 2 * passed);
                 due("the week", x.count(1), week + passed);
@@ -422,7 +409,7 @@ public final class BoundsOfWeeksTest {
         x.person(CHILD, 0, 0);
         x.person(NEIGHBOUR, 0, 4);
         x.sow(0, 8);
-        x.seed(leadsTo(4, 5));
+        x.seed(Road.to(4, 5));
         x.weeks(1);
         int[] want = {2, 1, 1, 4, 1};
         for (int what = 0; what < 5; what++) {
