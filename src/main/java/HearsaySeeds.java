@@ -304,13 +304,13 @@ public final class HearsaySeeds {
         if (noPerson(person) || outside(n, 1, 60) || outside(what, 0, 1)) {
             return BAD;
         }
-        int best = 0;
+        int best = NEIGHBOUR;
         int least = 0;
-        for (int kind = 0; kind < KINDS; kind++) {
+        for (int kind = NEIGHBOUR; kind < KINDS; kind++) {
             trial.takeOver(now);
             trial.kind[person] = kind;
             trial.pass(n);
-            if (kind == 0 || trial.wrong < least) {
+            if (kind == NEIGHBOUR || trial.wrong < least) {
                 best = kind;
                 least = trial.wrong;
             }
@@ -1277,7 +1277,7 @@ public final class HearsaySeeds {
 
         /** Signs that bind closer than a level have all they join. */
         private void drop(int level) {
-            while (topLevel() > level) {
+            while (high > 0 && topLevel() > level) {
                 high--;
                 draft.add(-signs[high]);
             }

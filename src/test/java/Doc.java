@@ -13,6 +13,10 @@ final class Doc {
     private Doc() {
     }
 
+    static String face() {
+        return part("## The public face");
+    }
+
     static String terms() {
         return part("## Terms");
     }
