@@ -11,13 +11,16 @@ import java.util.Random;
 
 /** Runs by lot (the same each time), every answer held against the oracle's. */
 public final class OracleTest {
-    private static final int RUNS = 400, CALLS = 512;
+    /** The document leaves free what an object answers behind its 512th call; one step makes 75 calls at most. */
+    private static final int RUNS = 500, CALLS = 512, MOST_OF_A_STEP = 75;
     private static final int[] ODD = {-1, Integer.MIN_VALUE, Integer.MAX_VALUE, 10, 24, 25, 100, 101, Due.NONE, -24, 61};
     private static final String[] PARTS = {"want", "fee", "fine", "t", "n", "s", "v", "w", "g", "+", "-", "*", "/", "<",
         "=", ">", "&", "|", "!", "(", ")", "0", "7", "12", "345", "6789", "12345", "x", "tt", "A", "\u00e9", "\0"};
 
     /** What the document lets each call be asked with, least and most of each number. */
     private static final Map<String, int[]> RANGES = new HashMap<>();
+
+    private static int made = 0;
 
     private static void range(String name, int... leastAndMost) {
         RANGES.put(name, leastAndMost);
@@ -136,6 +139,7 @@ public final class OracleTest {
         }
         int want = o.call(m.getName(), args);
         int got;
+        made++;
         try {
             got = (Integer) m.invoke(x, boxed);
         } catch (InvocationTargetException thrown) {
@@ -160,13 +164,15 @@ public final class OracleTest {
         Oracle o = new Oracle();
         StringBuilder log = new StringBuilder();
         boolean late = number % 10 == 9;
+        made = 0;
         if (number % 3 != 0) {
             x.seed(number);
             o.call("seed", new int[] {number});
             x.deal(8);
             o.call("deal", new int[] {8});
+            made += 2;
         }
-        for (int i = 0; i < CALLS; i++) {
+        for (int i = 0; i < CALLS && made <= CALLS - MOST_OF_A_STEP; i++) {
             Method m = calls.get(some(lot, calls.size()));
             int[] args = new int[m.getParameterCount()];
             for (int k = 0; k < args.length; k++) {
@@ -212,6 +218,7 @@ public final class OracleTest {
         Method tell = HearsaySeeds.class.getMethod("tell", int.class);
         o.call("check", new int[] {1});
         x.check(1);
+        made++;
         int weeks = Math.min(n, 9999 - o.image.week);
         int told = 2 * weeks + (some(lot, 3) == 0 ? some(lot, 3) - 1 : 0);
         int off = some(lot, 3) == 0 ? some(lot, 2 * weeks + 1) : -1;
@@ -230,11 +237,17 @@ public final class OracleTest {
         int from = args.length > 1 ? Integer.parseInt(args[1]) : 0;
         ranges();
         List<Method> calls = calls();
+        int most = 0;
         for (int number = from; number < from + runs; number++) {
             if (!run(number, calls)) {
                 System.out.println("run by lot " + number + " is not as the oracle's");
                 System.exit(1);
             }
+            most = Math.max(most, made);
+        }
+        if (most > CALLS) {
+            System.out.println("a run made " + most + " calls");
+            System.exit(1);
         }
         System.out.println(runs + " runs by lot are as the oracle's");
     }

@@ -2,6 +2,8 @@ import java.lang.management.ManagementFactory;
 
 /** A run's room: an object is made once, and no call makes anything. */
 public final class RoomTest {
+    private static final int ROUNDS = 20;
+
     private static long allocated() {
         com.sun.management.ThreadMXBean bean = (com.sun.management.ThreadMXBean) ManagementFactory.getThreadMXBean();
         return bean.getThreadAllocatedBytes(Thread.currentThread().getId());
@@ -21,22 +23,36 @@ public final class RoomTest {
         return sum;
     }
 
+    /** What asking itself takes; the least of several rounds, as the machine's own doings only ever add to it. */
+    private static long asking() {
+        long least = Long.MAX_VALUE;
+        for (int round = 0; round < ROUNDS; round++) {
+            long before = allocated();
+            least = Math.min(least, allocated() - before);
+        }
+        return least;
+    }
+
     public static void main(String[] args) {
-        HearsaySeeds warm = new HearsaySeeds();
-        warm.deal(8);
-        int sum = dearest(warm);
-        long before = allocated();
-        HearsaySeeds x = new HearsaySeeds();
-        long made = allocated() - before;
-        x.deal(8);
-        before = allocated();
-        sum -= dearest(x);
-        long used = allocated() - before;
-        System.out.println("an object takes " + made + " bytes, its dearest calls " + used);
-        Due.due("the same calls, the same answers", sum, 0);
+        long made = Long.MAX_VALUE;
+        long used = Long.MAX_VALUE;
+        int first = 0;
+        for (int round = 0; round < ROUNDS; round++) {
+            long before = allocated();
+            HearsaySeeds x = new HearsaySeeds();
+            made = Math.min(made, allocated() - before);
+            x.deal(8);
+            before = allocated();
+            int sum = dearest(x);
+            used = Math.min(used, allocated() - before);
+            first = round == 0 ? sum : first;
+            Due.due("the same calls, the same answers", sum, first);
+        }
+        long asking = asking();
+        System.out.println("an object takes " + (made - asking) + " bytes, its dearest calls " + (used - asking));
         // Some 3,000 elements; the room holds 7.3 million.
         Due.holds("an object is small", made < 20000);
-        Due.holds("calls make nothing", used < 1000);
+        Due.holds("calls make nothing", used <= asking);
         Due.finish();
     }
 }
